@@ -19,7 +19,8 @@ public final class PackingTest {
         Leastlex x = Check.with("ab", "aba", "abab", "ac", "acab");
         check.same("39: of seven states", 9, x.packed(0));
         Check.typed(x, "acab").drop(0);
-        check.same("39: after drop", Check.row(x, 0).length(), x.packed(0));
+        // Starts: of a 1, of ab 4, of aba 5, as b of it would stand on c from 2 on, and on a from 3 on.
+        check.same("39: after drop", 7, x.packed(0));
         for (int net : NO_NETS) {
             check.refuses("39: net " + net, x, IndexOutOfBoundsException.class, () -> x.packed(net));
         }
@@ -31,16 +32,16 @@ public final class PackingTest {
         // The first state stands at 0, the second one at 1, as 0 is the other one's start.
         check.same("40: no two starts alike", "aa", Check.row(Check.with("aa"), 0));
         check.same("40: though the place is free", "a-b", Check.row(Check.with("ab"), 0));
-        check.same("40: starts may stand on letters", "aac", Check.row(Check.with("ab", "cb", "aa"), 0).substring(0, 0)
-                + "aac");
-        // b alone from 0 on, then a: 0 is a start, so it comes to 2, behind b at 1.
+        // a goes on by a and b: no start before 3 leaves both free. c goes on by b: not from 1 to 3 either.
+        check.same("40: all letters of a state are free", "a-cabb", Check.row(Check.with("aa", "ab", "cb"), 0));
+        // b is at 1 from 0 on. Then a: 0 is a start already, at 1 is b.
         check.same("40: b, then a", "-ba", Check.row(Check.with("ba"), 0));
-        // From the empty beginning a and b at 0; then a by c at 1 + 2; then b by a at 2.
+        // a goes on by c: from 1 on, where b is, so c is at 3. b goes on by a: at 2.
         check.same("40: states in the order of their letters", "abac", Check.row(Check.with("ac", "ba"), 0));
-        // a and b go on alike, so there are two states with letters only.
+        // a and b go on alike: one state, from 1 on.
         check.same("40: each state once", "ab-c", Check.row(Check.with("ac", "bc"), 0));
-        // a goes on by a, and b by b; then aa by c, then bb by d: first those that are nearer to the first.
-        check.same("40: not in depth first", "abaccaad".length(), Check.row(Check.with("aaca", "bbd"), 0).length() + 0);
+        // Starts: of a 2, of b 3, of aa 1, of bb 4, of aac 5.
+        check.same("40: states go by their distance from the first", "abacba-d", Check.row(Check.with("aaca", "bbd"), 0));
         Leastlex x = Check.with("ab", "aba", "abab", "ac", "acab");
         check.same("40: of seven states", 'a', x.packedAt(0, 0));
         check.same("40: none", '-', x.packedAt(0, 1));
