@@ -247,27 +247,12 @@ public final class Leastlex {
 
     public int inBag(int net) throws IndexOutOfBoundsException, UnsupportedOperationException {
         Net words = netAt(net);
-        long bag = typedWord();
-        int found = 0;
-        for (int number = 0; number < words.count(); number++) {
-            if (Word.isWithin(words.wordAt(number), bag)) {
-                found++;
-            }
-        }
-        return found;
+        return words.countInBag(typedWord(), false);
     }
 
     public int anagrams(int net) throws IndexOutOfBoundsException, UnsupportedOperationException {
         Net words = netAt(net);
-        long bag = typedWord();
-        int found = 0;
-        for (int number = 0; number < words.count(); number++) {
-            long word = words.wordAt(number);
-            if (Word.isWithin(word, bag) && Word.isWithin(bag, word)) {
-                found++;
-            }
-        }
-        return found;
+        return words.countInBag(typedWord(), true);
     }
 
     public int addRule(int off) throws IllegalArgumentException, UnsupportedOperationException,
@@ -771,6 +756,18 @@ public final class Leastlex {
             return found;
         }
 
+        /** How many words are in the bag of a word's letters, or, if all of these are wanted, are its anagrams. */
+        int countInBag(long bag, boolean wantsAll) {
+            int found = 0;
+            for (int number = 0; number < count; number++) {
+                long word = wordAt(number);
+                if (Word.isWithin(word, bag) && (!wantsAll || Word.isWithin(bag, word))) {
+                    found++;
+                }
+            }
+            return found;
+        }
+
         int countMissingIn(Net other) {
             int missing = 0;
             for (int number = 0; number < count; number++) {
@@ -1127,6 +1124,9 @@ public final class Leastlex {
         }
 
         private int bucketOf(int depth) {
+            if (depth < 0 || depth > LONGEST) {
+                return 0;
+            }
             int hash = draftEnds[depth] ? 1 : 0;
             for (int column = 0; column < LETTERS; column++) {
                 hash = hash * 31 + draftTargets[depth * LETTERS + column];
@@ -1135,7 +1135,7 @@ public final class Leastlex {
         }
 
         private boolean isDrafted(int state, int depth) {
-            if (ends[state] != draftEnds[depth]) {
+            if (state < 0 || state >= STATES || depth < 0 || depth > LONGEST || ends[state] != draftEnds[depth]) {
                 return false;
             }
             for (int column = 0; column < LETTERS; column++) {
@@ -1147,7 +1147,7 @@ public final class Leastlex {
         }
 
         private int made(int depth, int bucket) {
-            if (count >= STATES) {
+            if (count >= STATES || depth < 0 || depth > LONGEST || bucket < 0 || bucket >= BUCKETS) {
                 return NONE;
             }
             int state = count;
@@ -1156,7 +1156,7 @@ public final class Leastlex {
             for (int column = 0; column < LETTERS; column++) {
                 int target = draftTargets[depth * LETTERS + column];
                 targets[state * LETTERS + column] = target;
-                restCounts[state] += restsOf(target);
+                restCounts[state] += target >= 0 && target < state ? restCounts[target] : 0;
             }
             older[state] = newest[bucket];
             newest[bucket] = state;
@@ -1247,7 +1247,7 @@ public final class Leastlex {
         }
 
         private boolean fits(Machine machine, int state, int start) {
-            if ((row[start] & START_BIT) != 0) {
+            if (start < 0 || start > PLACES - LETTERS || (row[start] & START_BIT) != 0) {
                 return false;
             }
             for (int letter = 1; letter <= LETTERS; letter++) {
@@ -1259,7 +1259,7 @@ public final class Leastlex {
         }
 
         private void put(Machine machine, int state, int start) {
-            if (state < 0 || state >= STATES) {
+            if (state < 0 || state >= STATES || start < 0 || start > PLACES - LETTERS) {
                 return;
             }
             starts[state] = start;
