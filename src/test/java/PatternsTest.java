@@ -64,6 +64,7 @@ public final class PatternsTest {
         check.same("26: in hgfedcba", 6, Check.typed(x, "hgfedcba").inBag(0));
         check.same("26: in aaaaaaaa", 2, Check.typed(x, "aaaaaaaa").inBag(0));
         check.same("26: empty net", 0, x.inBag(1));
+        check.same("26: h in h", 1, Check.typed(Check.with("h", "hh", "ah"), "h").inBag(0));
         needsWord("26", x, () -> x.inBag(0), net -> x.inBag(net));
     }
 
@@ -75,6 +76,8 @@ public final class PatternsTest {
         check.same("27: a", 0, Check.typed(x, "a").anagrams(0));
         check.same("27: acegbdfh", 2, Check.typed(x, "acegbdfh").anagrams(0));
         check.same("27: empty net", 0, x.anagrams(1));
+        check.same("27: h", 1, Check.typed(Check.with("h", "hh", "ah"), "h").anagrams(0));
+        check.same("27: hha", 1, Check.typed(Check.with("ahh", "ah", "aah"), "hha").anagrams(0));
         needsWord("27", x, () -> x.anagrams(0), net -> x.anagrams(net));
     }
 

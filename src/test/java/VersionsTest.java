@@ -20,6 +20,9 @@ public final class VersionsTest {
         }
         check.refuses("35: a 9th", x, IllegalStateException.class, () -> x.keep(0));
         check.refuses("35: net first", x, IndexOutOfBoundsException.class, () -> x.keep(4));
+        check.refuses("36: version 8 of 8", x, IndexOutOfBoundsException.class, () -> x.lay(8, 0));
+        check.refuses("37: version 8 of 8", x, IndexOutOfBoundsException.class, () -> x.added(8, 0));
+        check.refuses("38: version 8 of 8", x, IndexOutOfBoundsException.class, () -> x.dropped(8, 0));
         check.same("35: the net keeps its words", "a b", Check.words(x, 0));
         Check.typed(x, "c").add(0);
         Check.typed(x, "a").drop(0);
