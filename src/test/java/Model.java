@@ -54,6 +54,10 @@ final class Model {
         return new ArrayList<>(net(net).keySet());
     }
 
+    String typed() {
+        return typed;
+    }
+
     int type(char sign) {
         demand("abcdefgh?*".indexOf(sign) >= 0, new IllegalArgumentException());
         demand(typed.length() < 10, new IllegalStateException());

@@ -176,10 +176,12 @@ public final class PatternsTest {
             check.refuses("30: index " + index, x, NoSuchElementException.class, () -> x.readingWord(0, index));
             check.refuses("31: index " + index, x, NoSuchElementException.class, () -> x.readingRule(0, index));
         }
-        needsWord("30", x, () -> x.readingWord(0, 0), net -> x.readingWord(net, 0));
-        needsWord("31", x, () -> x.readingRule(0, 0), net -> x.readingRule(net, 0));
-        needsWord("30, typed first", x, () -> x.readingWord(0, -1), net -> x.readingWord(net, -1));
-        needsWord("31, typed first", x, () -> x.readingRule(0, -1), net -> x.readingRule(net, -1));
+        for (int index : new int[] {0, -1}) {
+            Leastlex y = ruled();
+            needsWord("30: index " + index, y, () -> y.readingWord(0, index), net -> y.readingWord(net, index));
+            Leastlex z = ruled();
+            needsWord("31: index " + index, z, () -> z.readingRule(0, index), net -> z.readingRule(net, index));
+        }
         Leastlex twice = Check.with("a", "aa");
         twice.addRule(0);
         twice.addRule(0);

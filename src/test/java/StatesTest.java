@@ -45,7 +45,9 @@ public final class StatesTest {
         figures(eight, 1 + 7 + 7 + 1, 3 + 7 + 7, 25);
         Leastlex full = Check.with(Check.threes(50));
         // aaa to agb: a goes on by a to f by all 8, by g by 2.
-        figures(full, 5, 1 + 7 + 8 + 2, 1 + 1 + 7 + 50);
+        check.same("11: states of a full net", 5, full.states(0));
+        check.same("12: edges of a full net", 1 + 7 + 8 + 2, full.edges(0));
+        check.same("13: beginnings of a full net", 1 + 1 + 7 + 50, full.beginnings(0));
         Leastlex x = Check.with("ab", "cb", "cd");
         figures(x, 4, 5, 6);
         Check.typed(x, "cd").drop(0);

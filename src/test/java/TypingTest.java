@@ -48,7 +48,15 @@ public final class TypingTest {
         for (int i = signs.length() - 1; i >= 0; i--) {
             check.same("2: what was typed", signs.charAt(i), x.back());
         }
-        for (int sign = 0; sign <= Character.MAX_VALUE; sign++) {
+        for (int first = 0; first <= Character.MAX_VALUE; first += 256) {
+            refusesSigns(first, signs);
+        }
+    }
+
+    /** Of 256 signs those that are none are refused by one object, as no object is used for more than 512 calls. */
+    private static void refusesSigns(int first, String signs) {
+        Leastlex x = new Leastlex();
+        for (int sign = first; sign < first + 256; sign++) {
             char wrong = (char) sign;
             if (signs.indexOf(wrong) < 0) {
                 check.raises("2: type " + sign, IllegalArgumentException.class, () -> x.type(wrong));
