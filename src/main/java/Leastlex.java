@@ -583,7 +583,7 @@ public final class Leastlex {
         }
 
         char takeLast() {
-            if (count < 1) {
+            if (count < 1 || count > SIGNS) {
                 return '-';
             }
             count--;
@@ -790,7 +790,7 @@ public final class Leastlex {
                     }
                 }
             }
-            return ways[span];
+            return span <= LONGEST ? ways[span] : 0;
         }
     }
 
@@ -851,7 +851,7 @@ public final class Leastlex {
                     aslant = above;
                 }
             }
-            return line[width];
+            return width <= LONGEST ? line[width] : 0;
         }
 
         /** Measures the words of a net and tells how many are near. */
@@ -1101,7 +1101,7 @@ public final class Leastlex {
             for (int depth = Word.span(word); depth > alike && depth > 0; depth--) {
                 int state = settled(depth);
                 int letter = Word.letterAt(word, depth - 1);
-                if (letter >= 1 && letter <= LETTERS) {
+                if (depth <= LONGEST && letter >= 1 && letter <= LETTERS) {
                     draftTargets[(depth - 1) * LETTERS + letter - 1] = state;
                 }
             }
@@ -1113,7 +1113,7 @@ public final class Leastlex {
                 return NONE;
             }
             int bucket = bucketOf(depth);
-            int state = newest[bucket];
+            int state = bucket >= 0 && bucket < BUCKETS ? newest[bucket] : NONE;
             for (int step = 0; step < STATES && isState(state); step++) {
                 if (isDrafted(state, depth)) {
                     return state;
@@ -1317,7 +1317,7 @@ public final class Leastlex {
             for (int letter = 1; letter <= LETTERS && field.found < field.most; letter++) {
                 int nextAcross = machine.after(before, letter);
                 int nextDown = machine.after(above, letter);
-                if (nextAcross != NONE && nextDown != NONE) {
+                if (cell >= 0 && nextAcross != NONE && nextDown != NONE) {
                     field.letters[cell] = letter;
                     field.across[cell] = nextAcross;
                     field.down[cell] = nextDown;

@@ -35,8 +35,13 @@ public final class AgainstModelTest {
         int wrong = 0;
         for (int run = 0; run < RUNS && wrong == 0; run++) {
             AgainstModelTest test = new AgainstModelTest(run);
+            if (run % 3 == 0) {
+                test.addRules();
+            }
             if (run % 5 == 0) {
                 test.fill();
+            } else if (run % 5 == 1) {
+                test.fillWithAny();
             }
             while (test.calls < CALLS - 12 && test.wrong == 0) {
                 test.step();
@@ -132,6 +137,26 @@ public final class AgainstModelTest {
             }
             typeSign(letter());
             add(0);
+        }
+    }
+
+    /** As many words as there is time for, each typed anew, of all lengths that the run has. */
+    private void fillWithAny() {
+        while (calls < 400 && m.size(0) < 50) {
+            typeWord();
+            add(0);
+        }
+    }
+
+    /** All rules that there may be, and one more. */
+    private void addRules() {
+        for (int rule = 0; rule <= 8; rule++) {
+            wipe();
+            for (int i = draw(3); i > 0; i--) {
+                typeSign(letter());
+            }
+            int off = draw(3);
+            same("addRule " + off, x -> x.addRule(off), m -> m.addRule(off));
         }
     }
 

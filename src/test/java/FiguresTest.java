@@ -1,3 +1,5 @@
+import java.lang.reflect.Field;
+
 /** Promises 41 to 44: checksum, stateShare, meanLength, isSound. */
 public final class FiguresTest {
     private static final Check check = new Check();
@@ -92,5 +94,30 @@ public final class FiguresTest {
             check.same("44: without " + words[i], true, x.isSound());
         }
         check.same("44: full", true, Check.with(Check.threes(50)).isSound());
+        for (int net = 0; net < 4; net++) {
+            check.same("44: broken net " + net, false, broken(net, 0, 1).isSound());
+            check.same("44: broken net " + net, false, broken(net, 2, 3).isSound());
+        }
+    }
+
+    /** No call makes a net unsound, so two of its words are exchanged where they are held. */
+    private static Leastlex broken(int net, int one, int other) {
+        Leastlex x = Check.adding(new Leastlex(), net, "a", "ab", "b", "c");
+        try {
+            Object broken = ((Object[]) held(x, "nets"))[net];
+            long[] words = (long[]) held(broken, "words");
+            long moved = words[one];
+            words[one] = words[other];
+            words[other] = moved;
+        } catch (ReflectiveOperationException e) {
+            throw new IllegalStateException("nets are held otherwise now", e);
+        }
+        return x;
+    }
+
+    private static Object held(Object holder, String name) throws ReflectiveOperationException {
+        Field field = holder.getClass().getDeclaredField(name);
+        field.setAccessible(true);
+        return field.get(holder);
     }
 }
